@@ -168,8 +168,8 @@ public final class TrapGate {
             case 1: return trapsMade;
             case 2: return open(p, a, b);
             case 3: return close(p, a);
-            case 4: return read(p, a, b, c);
-            case 5: return write(p, a, b, c);
+            case 4: return transfer(p, READ, a, b, c);
+            case 5: return transfer(p, WRITE, a, b, c);
             case 6: return seek(p, a, b);
             case 7: return duplicate(p, a);
             case 8: return unlink(p, a);
@@ -179,8 +179,8 @@ public final class TrapGate {
             case 12: return list(p, a, b);
             case 13: return copy(p, a, b, c);
             case 14: return protect(p, a, b);
-            case 15: return readRanges(p, a, b, c);
-            case 16: return writeRanges(p, a, b, c);
+            case 15: return transferRanges(p, READ, a, b, c);
+            case 16: return transferRanges(p, WRITE, a, b, c);
             case 17: return rename(p, a, b);
             default: return NOSYS;
         }
@@ -206,11 +206,14 @@ public final class TrapGate {
         if (open == NONE) {
             return NFILE;
         }
-        int file = name == NONE ? makeFile(text) : names.files[name];
-        if (file == NONE) {
+        int file = name == NONE ? leastFreeFile() : names.files[name];
+        if (file == NONE || (name == NONE && names.isFull())) {
             return NOSPC;
         }
-        if ((mode & EMPTY) != 0) {
+        if (name == NONE) {
+            names.add(text, file);
+        }
+        if (name == NONE || (mode & EMPTY) != 0) {
             files[file].length = 0;
         }
         opens.make(open, file, mode & READ_WRITE);
@@ -223,17 +226,6 @@ public final class TrapGate {
             return false;
         }
         return (mode & EMPTY) == 0 || (mode & WRITE) != 0;
-    }
-
-    /** The number of a new file with this name; NONE, changing nothing, when there is no room for it. */
-    private int makeFile(long text) {
-        int file = leastFreeFile();
-        if (file == NONE || names.isFull()) {
-            return NONE;
-        }
-        files[file].length = 0;
-        names.add(text, file);
-        return file;
     }
 
     private int close(int p, int descriptor) {
@@ -272,56 +264,40 @@ public final class TrapGate {
         return position;
     }
 
-    private int read(int p, int descriptor, int address, int n) {
+    /** READ or WRITE, as the mode says that the open must have. */
+    private int transfer(int p, int mode, int descriptor, int address, int n) {
         if (n < 0 || n > MOST_BYTES) {
             return INVAL;
         }
         int open = opens.at(p, descriptor);
-        if (!opens.isFor(open, READ)) {
+        if (!opens.isFor(open, mode)) {
             return BADF;
         }
-        if (!memory.allows(p, address, n, WRITE)) {
+        if (!memory.allows(p, address, n, flagFor(mode))) {
             return FAULT;
         }
         ranges.setOnly(address, n);
-        return readOpen(p, open);
+        return mode == READ ? readOpen(p, open) : writeOpen(p, open);
     }
 
-    private int write(int p, int descriptor, int address, int n) {
-        if (n < 0 || n > MOST_BYTES) {
-            return INVAL;
-        }
-        int open = opens.at(p, descriptor);
-        if (!opens.isFor(open, WRITE)) {
-            return BADF;
-        }
-        if (!memory.allows(p, address, n, READ)) {
-            return FAULT;
-        }
-        ranges.setOnly(address, n);
-        return writeOpen(p, open);
-    }
-
-    private int readRanges(int p, int descriptor, int address, int pairs) {
+    /** READV or WRITEV, as the mode says that the open must have. */
+    private int transferRanges(int p, int mode, int descriptor, int address, int pairs) {
         if (pairs < 0 || pairs > MOST_RANGES) {
             return INVAL;
         }
         int open = opens.at(p, descriptor);
-        if (!opens.isFor(open, READ)) {
+        if (!opens.isFor(open, mode)) {
             return BADF;
         }
-        return takeRanges(p, address, pairs, WRITE) ? readOpen(p, open) : FAULT;
+        if (!takeRanges(p, address, pairs, flagFor(mode))) {
+            return FAULT;
+        }
+        return mode == READ ? readOpen(p, open) : writeOpen(p, open);
     }
 
-    private int writeRanges(int p, int descriptor, int address, int pairs) {
-        if (pairs < 0 || pairs > MOST_RANGES) {
-            return INVAL;
-        }
-        int open = opens.at(p, descriptor);
-        if (!opens.isFor(open, WRITE)) {
-            return BADF;
-        }
-        return takeRanges(p, address, pairs, READ) ? writeOpen(p, open) : FAULT;
+    /** What is read from an open is put into memory, and what is written to it is taken from there. */
+    private static int flagFor(int mode) {
+        return mode == READ ? WRITE : READ;
     }
 
     /** Takes the ranges from the pairs at an address; false when the pairs or a range may not be used so. */
