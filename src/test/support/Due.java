@@ -2,15 +2,22 @@
 final class Due {
     private static int wrong = 0;
     private static int seen = 0;
+    private static String sentence = "";
 
     private Due() {
+    }
+
+    /** The words of the document that the next answers are held against; they are told with what is wrong. */
+    static void says(String words) {
+        sentence = words;
     }
 
     static void is(String call, long got, long want) {
         seen++;
         if (got != want) {
             wrong++;
-            System.out.println(call + " answered " + got + ", due is " + want);
+            String where = sentence.isEmpty() ? "" : " (\"" + sentence + "\")";
+            System.out.println(call + " answered " + got + ", due is " + want + where);
         }
     }
 

@@ -1,37 +1,5 @@
 /** A TrapGate with the few steps that most tests take on it. */
-final class Machine {
-    static final int PID = 0;
-    static final int TICKS = 1;
-    static final int OPEN = 2;
-    static final int CLOSE = 3;
-    static final int READ = 4;
-    static final int WRITE = 5;
-    static final int SEEK = 6;
-    static final int DUP = 7;
-    static final int UNLINK = 8;
-    static final int LINK = 9;
-    static final int STAT = 10;
-    static final int PIPE = 11;
-    static final int LIST = 12;
-    static final int COPY = 13;
-    static final int PROTECT = 14;
-    static final int READV = 15;
-    static final int WRITEV = 16;
-    static final int RENAME = 17;
-
-    static final int NOENT = -2;
-    static final int BADF = -9;
-    static final int AGAIN = -11;
-    static final int FAULT = -14;
-    static final int EXIST = -17;
-    static final int INVAL = -22;
-    static final int NFILE = -23;
-    static final int MFILE = -24;
-    static final int NOSPC = -28;
-    static final int SPIPE = -29;
-    static final int BROKEN_PIPE = -32;
-    static final int NOSYS = -38;
-
+final class Machine implements Numbers {
     final TrapGate gate = new TrapGate();
 
     /** Pages 0 .. 3 of process p get frames 4 * p .. 4 * p + 3 and all flags. */
