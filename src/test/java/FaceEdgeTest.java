@@ -69,7 +69,8 @@ public final class FaceEdgeTest implements Numbers {
 
     private static void mapInstead() {
         Due.says("(Several pages may have one frame.)");
-        Scene s = new Scene().poke(3, 0, 33).poke(4, 15, 44).map(0, 0, 3, 7).map(0, 0, 4, 5).map(0, 1, 4, 6).map(1, 0, 4, 0);
+        Scene s = new Scene().poke(3, 0, 33).poke(4, 15, 44).map(0, 0, 3, 7).map(0, 0, 4, 5).map(0, 1, 4, 6)
+            .map(1, 0, 4, 0);
         s.duePage(0, 0, 37).duePage(0, 1, 38).duePage(1, 0, 32).dueByte(3, 0, 33).dueByte(4, 15, 44);
     }
 
@@ -167,7 +168,8 @@ public final class FaceEdgeTest implements Numbers {
         for (int b : Numbers.outside(255)) {
             s.idle(0, "poke(1, 0, " + b + ")", g -> bit(g.poke(1, 0, b)));
         }
-        s.idle(0, "poke(-1, 16, 9)", g -> bit(g.poke(-1, 16, 9))).idle(0, "poke(20, -1, 9)", g -> bit(g.poke(20, -1, 9)));
+        s.idle(0, "poke(-1, 16, 9)", g -> bit(g.poke(-1, 16, 9)))
+            .idle(0, "poke(20, -1, 9)", g -> bit(g.poke(20, -1, 9)));
     }
 
     private static void peekRefuses() {
@@ -227,7 +229,8 @@ public final class FaceEdgeTest implements Numbers {
         Due.says("A TRAP of process p with a call number; answers its RESULT. NONE, changing nothing, when p is not 0 .. 2.");
         Scene s = Scene.busy();
         for (int p : Numbers.outside(2)) {
-            s.idle(NONE, "trap(" + p + ", 0)", g -> g.trap(p, PID)).idle(NONE, "trap(" + p + ", 18)", g -> g.trap(p, 18));
+            s.idle(NONE, "trap(" + p + ", 0)", g -> g.trap(p, PID))
+                .idle(NONE, "trap(" + p + ", 18)", g -> g.trap(p, 18));
             s.idle(NONE, "trap(" + p + ", 3)", g -> g.trap(p, CLOSE));
         }
     }
@@ -295,7 +298,8 @@ public final class FaceEdgeTest implements Numbers {
         for (int n = 1; n < 5; n++) {
             s.dueDescriptors(0, n).due(n, 0, DUP, 0);
         }
-        s.dueDescriptors(0, 5).dueDescriptors(1, 0).dueDescriptors(2, 1).dueZero(CLOSE, 0, 1, 2, 3).dueDescriptors(0, 1);
+        s.dueDescriptors(0, 5).dueDescriptors(1, 0).dueDescriptors(2, 1).dueZero(CLOSE, 0, 1, 2, 3)
+            .dueDescriptors(0, 1);
         s.dueZero(CLOSE, 4).dueDescriptors(0, 0).dueDescriptors(2, 1);
     }
 

@@ -44,7 +44,8 @@ public final class LimitEdgeTest implements Numbers {
         for (int i = 0; i < 6; i++) {
             s.due(i % 5, i / 5, OPEN, 0, 7).due(0, i / 5, UNLINK, 0).dueCounts(i + 1, 0, i + 1, 0);
         }
-        s.refused(NOSPC, 1, OPEN, 0, 7).due(0, 0, CLOSE, 3).dueCounts(5, 0, 5, 0).due(1, 1, OPEN, 0, 7).dueCounts(6, 1, 6, 0);
+        s.refused(NOSPC, 1, OPEN, 0, 7).due(0, 0, CLOSE, 3).dueCounts(5, 0, 5, 0).due(1, 1, OPEN, 0, 7)
+            .dueCounts(6, 1, 6, 0);
     }
 
     private static void fileBytes() {
@@ -61,12 +62,14 @@ public final class LimitEdgeTest implements Numbers {
             s.text(0, 8, "n" + i).due(0, 0, LINK, 0, 8).dueCounts(1, i + 2, 1, 0);
         }
         s.text(0, 16, "o").refused(NOSPC, 0, LINK, 0, 16).refused(NOSPC, 0, OPEN, 16, 7);
-        s.due(0, 0, RENAME, 0, 16).dueCounts(1, 8, 1, 0).due(0, 0, UNLINK, 16).due(1, 0, OPEN, 16, 7).dueCounts(2, 8, 2, 0);
+        s.due(0, 0, RENAME, 0, 16).dueCounts(1, 8, 1, 0).due(0, 0, UNLINK, 16).due(1, 0, OPEN, 16, 7)
+            .dueCounts(2, 8, 2, 0);
     }
 
     private static void nameBytes() {
         Due.says("each a string of 1 .. 7 bytes");
-        Scene s = withFile().text(0, 8, "abcdefg").text(0, 16, "hijklmno").due(0, 0, LINK, 0, 8).due(0, 0, RENAME, 8, 17);
+        Scene s = withFile().text(0, 8, "abcdefg").text(0, 16, "hijklmno").due(0, 0, LINK, 0, 8)
+            .due(0, 0, RENAME, 8, 17);
         s.refused(FAULT, 0, LINK, 0, 16).refused(NOENT, 0, LINK, 0, 1).due(7, 0, LIST, 1, 32).due(1, 0, LIST, 0, 32);
         s.due(1, 0, OPEN, 8, 7).due(7, 0, LIST, 0, 32).dueText(0, 32, "abcdefg\0").dueCounts(2, 3, 2, 0);
     }
@@ -87,7 +90,8 @@ public final class LimitEdgeTest implements Numbers {
         for (int i = 0; i < 7; i++) {
             s.text(0, 8, "n" + i).due(0, 0, UNLINK, 8).dueStat(0, 0, 0, 7 - i, 1);
         }
-        s.due(0, 0, UNLINK, 0).dueCounts(1, 0, 1, 0).due(3, 0, WRITE, 0, 0, 3).due(0, 0, SEEK, 0, 0).due(3, 0, READ, 0, 32, 9);
+        s.due(0, 0, UNLINK, 0).dueCounts(1, 0, 1, 0).due(3, 0, WRITE, 0, 0, 3).due(0, 0, SEEK, 0, 0)
+            .due(3, 0, READ, 0, 32, 9);
     }
 
     private static void eightOpens() {
@@ -96,7 +100,8 @@ public final class LimitEdgeTest implements Numbers {
         for (int i = 1; i < 8; i++) {
             s.due(i % 5, i / 5, OPEN, 0, 7).dueCounts(1, 1, i + 1, 0);
         }
-        s.refused(NFILE, 1, OPEN, 0, 7).refused(NFILE, 2, OPEN, 0, 1).refused(NFILE, 2, PIPE, 32).dueStat(0, 0, 0, 1, 8);
+        s.refused(NFILE, 1, OPEN, 0, 7).refused(NFILE, 2, OPEN, 0, 1).refused(NFILE, 2, PIPE, 32)
+            .dueStat(0, 0, 0, 1, 8);
         s.due(3, 1, DUP, 0).due(4, 1, DUP, 0).dueCounts(1, 1, 8, 0).due(0, 1, CLOSE, 0).refused(NFILE, 2, OPEN, 0, 1);
         s.due(0, 0, CLOSE, 2).dueCounts(1, 1, 7, 0).due(0, 2, OPEN, 0, 1).dueCounts(1, 1, 8, 0);
     }
@@ -114,7 +119,8 @@ public final class LimitEdgeTest implements Numbers {
         for (int d = 1; d < 5; d++) {
             s.refused(BADF, 0, CLOSE, d).refused(BADF, 0, SEEK, d, 0).due(d, 0, OPEN, 0, 3).due(d, 0, SEEK, d, d);
         }
-        s.refused(MFILE, 0, OPEN, 0, 3).refused(MFILE, 0, DUP, 0).refused(MFILE, 0, PIPE, 32).refused(BADF, 0, CLOSE, 5);
+        s.refused(MFILE, 0, OPEN, 0, 3).refused(MFILE, 0, DUP, 0).refused(MFILE, 0, PIPE, 32)
+            .refused(BADF, 0, CLOSE, 5);
         s.dueZero(CLOSE, 0, 1, 2, 3, 4).dueDescriptors(0, 0).dueCounts(1, 1, 0, 0);
     }
 
@@ -147,6 +153,11 @@ public final class LimitEdgeTest implements Numbers {
         s.due(0, 0, CLOSE, 1).dueCounts(0, 0, 0, 0);
         s = withFile().text(0, 8, "g").due(1, 0, OPEN, 8, 7).due(0, 0, CLOSE, 1).due(0, 0, RENAME, 0, 8);
         s.dueCounts(1, 1, 1, 0).dueStat(0, 8, 0, 1, 1);
+        for (int mode = 1; mode <= 3; mode++) {
+            s = withFile().due(1, 0, OPEN, 0, mode).due(0, 0, CLOSE, 0).due(0, 0, UNLINK, 0).dueCounts(1, 0, 1, 0);
+            s.due(0, 0, OPEN, 0, 7).dueCounts(2, 1, 2, 0).due(3, 0, WRITE, 0, 0, 3).dueStat(0, 0, 3, 1, 1);
+            s.due(0, 0, CLOSE, 1).dueCounts(1, 1, 1, 0);
+        }
     }
 
     private static void newFileIsEmpty() {
@@ -159,7 +170,8 @@ public final class LimitEdgeTest implements Numbers {
 
     private static void newOpenStartsAgain() {
         Due.says("which stands for a new open of the file then, with the mode A1 & 3 and position 0.");
-        Scene s = withFile().due(5, 0, WRITE, 0, 0, 5).due(0, 0, CLOSE, 0).due(0, 0, OPEN, 0, 1).due(5, 0, READ, 0, 32, 9);
+        Scene s = withFile().due(5, 0, WRITE, 0, 0, 5).due(0, 0, CLOSE, 0).due(0, 0, OPEN, 0, 1)
+            .due(5, 0, READ, 0, 32, 9);
         s.refused(BADF, 0, WRITE, 0, 0, 1).due(0, 0, CLOSE, 0).due(0, 0, OPEN, 0, 2).refused(BADF, 0, READ, 0, 32, 1);
         s.due(1, 0, WRITE, 0, 32, 1).dueStat(0, 0, 5, 1, 1);
     }
@@ -193,15 +205,18 @@ public final class LimitEdgeTest implements Numbers {
 
     private static void twoPipes() {
         Due.says("there are at most 2.");
-        Scene s = withPipe().room(1).due(0, 1, PIPE, 16).dueCounts(0, 0, 4, 2).refused(NFILE, 0, PIPE, 16).refused(NFILE, 1, PIPE, 16);
+        Scene s = withPipe().room(1).due(0, 1, PIPE, 16).dueCounts(0, 0, 4, 2).refused(NFILE, 0, PIPE, 16)
+            .refused(NFILE, 1, PIPE, 16);
         s.due(0, 0, CLOSE, 0).due(0, 1, CLOSE, 1).dueCounts(0, 0, 2, 2).refused(NFILE, 0, PIPE, 16);
-        s.due(0, 0, CLOSE, 1).dueCounts(0, 0, 1, 1).due(0, 0, PIPE, 16).dueCounts(0, 0, 3, 2).refused(NFILE, 1, PIPE, 16);
+        s.due(0, 0, CLOSE, 1).dueCounts(0, 0, 1, 1).due(0, 0, PIPE, 16).dueCounts(0, 0, 3, 2)
+            .refused(NFILE, 1, PIPE, 16);
     }
 
     private static void leastFree() {
         Due.says("\"the least free\" is always taken.");
         Scene s = withFile().due(1, 0, DUP, 0).due(2, 0, OPEN, 0, 1).due(3, 0, DUP, 2).due(4, 0, OPEN, 0, 2);
-        s.dueZero(CLOSE, 3, 1).due(1, 0, OPEN, 0, 1).due(3, 0, DUP, 0).dueZero(CLOSE, 4, 0).due(0, 0, DUP, 1).due(4, 0, OPEN, 0, 1);
+        s.dueZero(CLOSE, 3, 1).due(1, 0, OPEN, 0, 1).due(3, 0, DUP, 0).dueZero(CLOSE, 4, 0).due(0, 0, DUP, 1)
+            .due(4, 0, OPEN, 0, 1);
         s.dueZero(CLOSE, 4, 2, 1).due(0, 0, PIPE, 32).dueBytes(0, 32, 1, 2).dueZero(CLOSE, 0).due(0, 0, OPEN, 0, 1);
         s.due(0, 1, OPEN, 0, 1);
     }

@@ -112,7 +112,8 @@ public final class MemoryEdgeTest implements Numbers {
         threePages(4, -1).due(17, 0, COPY, 0, 80, 17).refused(FAULT, 0, COPY, 0, 79, 1);
         threePages(6, -1).due(17, 0, COPY, 0, 79, 17).refused(FAULT, 0, COPY, 0, 96, 1);
         threePages(5, -1).due(1, 0, COPY, 0, 79, 1).due(1, 0, COPY, 0, 96, 1).refused(FAULT, 0, COPY, 0, 79, 2);
-        threePages(5, -1).due(0, 0, READV, 0, 76, 2).refused(FAULT, 0, READV, 0, 76, 3).refused(FAULT, 0, READV, 0, 77, 2);
+        threePages(5, -1).due(0, 0, READV, 0, 76, 2).refused(FAULT, 0, READV, 0, 76, 3)
+            .refused(FAULT, 0, READV, 0, 77, 2);
     }
 
     private static void allPagesWritable() {
@@ -136,7 +137,8 @@ public final class MemoryEdgeTest implements Numbers {
     private static void betweenZeroAndLast() {
         Due.says("all the addresses a .. a + n - 1 are between 0 and 255");
         Scene s = scene(7).map(0, 12, 16, 7).map(0, 13, 17, 7).map(0, 14, 18, 7).map(0, 15, 19, 7);
-        s.due(64, 0, COPY, 0, 192, 64).due(64, 0, COPY, 192, 0, 64).due(1, 0, COPY, 255, 0, 1).due(1, 0, COPY, 0, 255, 1);
+        s.due(64, 0, COPY, 0, 192, 64).due(64, 0, COPY, 192, 0, 64).due(1, 0, COPY, 255, 0, 1)
+            .due(1, 0, COPY, 0, 255, 1);
         int[][] beyond = {
             {193, 64}, {255, 2}, {255, 64}, {256, 1}, {256, 64}, {-1, 1}, {-1, 2}, {-1, 64}, {-63, 64}, {-64, 64}, {LEAST, 1},
             {LEAST, 64}, {LEAST + 255, 1}, {MOST, 1}, {MOST, 2}, {MOST - 62, 64}, {MOST - 63, 64}, {MOST, 64},
@@ -161,8 +163,10 @@ public final class MemoryEdgeTest implements Numbers {
         Due.says("0 bytes are always.");
         Scene s = scene(0).bytes(0, 40, 255, 0, 80, 0, 64, 0, 95, 0);
         s.due(0, 0, READV, 0, 40, 4).due(0, 0, WRITEV, 0, 40, 4);
-        s.bytes(0, 40, 255, 0, 48, 1, 80, 0, 50, 1).due(2, 0, READV, 0, 40, 4).dueText(0, 48, "x\0y").due(2, 0, WRITEV, 0, 40, 4);
-        s.bytes(0, 40, 255, 0, 48, 1, 80, 1, 50, 1).refused(FAULT, 0, READV, 0, 40, 4).refused(FAULT, 0, WRITEV, 0, 40, 4);
+        s.bytes(0, 40, 255, 0, 48, 1, 80, 0, 50, 1).due(2, 0, READV, 0, 40, 4).dueText(0, 48, "x\0y")
+            .due(2, 0, WRITEV, 0, 40, 4);
+        s.bytes(0, 40, 255, 0, 48, 1, 80, 1, 50, 1).refused(FAULT, 0, READV, 0, 40, 4)
+            .refused(FAULT, 0, WRITEV, 0, 40, 4);
     }
 
     private static void sharedFrames() {
@@ -195,7 +199,8 @@ public final class MemoryEdgeTest implements Numbers {
 
     private static void copyErrorsInOrder() {
         Due.says("When several errors would do, the one that is named first below is the result.");
-        Scene s = scene(0).refused(INVAL, 0, COPY, 80, 80, 65).refused(INVAL, 0, COPY, -1, 0, -1).refused(INVAL, 0, COPY, 0, 256, 65);
+        Scene s = scene(0).refused(INVAL, 0, COPY, 80, 80, 65).refused(INVAL, 0, COPY, -1, 0, -1)
+            .refused(INVAL, 0, COPY, 0, 256, 65);
         s.refused(FAULT, 0, COPY, 80, 80, 64).refused(FAULT, 0, COPY, 0, 80, 1).refused(FAULT, 0, COPY, 80, 0, 1);
         s.map(0, 1, 1, 5).map(0, 2, 2, 6).due(16, 0, COPY, 32, 16, 16).dueText(0, 32, "xyz");
         s.refused(FAULT, 0, COPY, 16, 32, 16).refused(FAULT, 0, COPY, 16, 0, 1).refused(FAULT, 0, COPY, 0, 32, 1);
@@ -225,7 +230,8 @@ public final class MemoryEdgeTest implements Numbers {
         for (int flags : Numbers.outside(3)) {
             s.refused(INVAL, 0, PROTECT, 5, flags);
         }
-        s.refused(INVAL, 0, PROTECT, 5, 7).due(3, 0, PROTECT, 5, 0).duePage(0, 5, 124).due(0, 0, PROTECT, 5, 3).duePage(0, 5, 127);
+        s.refused(INVAL, 0, PROTECT, 5, 7).due(3, 0, PROTECT, 5, 0).duePage(0, 5, 124).due(0, 0, PROTECT, 5, 3)
+            .duePage(0, 5, 127);
     }
 
     private static void protectFaults() {
@@ -233,7 +239,8 @@ public final class MemoryEdgeTest implements Numbers {
         for (int flags = 0; flags < 4; flags++) {
             scene(flags).refused(FAULT, 0, PROTECT, 5, 0).refused(FAULT, 0, PROTECT, 5, 3);
         }
-        scene(7).refused(FAULT, 0, PROTECT, 4, 3).refused(FAULT, 1, PROTECT, 5, 3).unmap(0, 5).refused(FAULT, 0, PROTECT, 5, 3);
+        scene(7).refused(FAULT, 0, PROTECT, 4, 3).refused(FAULT, 1, PROTECT, 5, 3).unmap(0, 5)
+            .refused(FAULT, 0, PROTECT, 5, 3);
         scene(4).due(0, 0, PROTECT, 5, 0).duePage(0, 5, 124);
     }
 

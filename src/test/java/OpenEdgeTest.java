@@ -27,7 +27,8 @@ public final class OpenEdgeTest implements Numbers {
 
     /** "f" is at 0 and "g" at 2 of processes 0 and 1, and both have room. */
     private static Scene scene() {
-        return new Scene().room(0, 1).text(0, 0, "f").text(0, 2, "g").text(1, 0, "f").text(1, 2, "g").text(0, 16, "abcdef");
+        return new Scene().room(0, 1).text(0, 0, "f").text(0, 2, "g").text(1, 0, "f").text(1, 2, "g")
+            .text(0, 16, "abcdef");
     }
 
     /** The file "f" with "abcdef" in it, open as descriptor 0 of process 0, at position 6. */
@@ -72,7 +73,8 @@ public final class OpenEdgeTest implements Numbers {
         for (int d = 1; d < 4; d++) {
             s.due(d, 0, DUP, 0);
         }
-        s.due(4, 0, OPEN, 0, 1).refused(MFILE, 0, OPEN, 0, 1).refused(MFILE, 0, OPEN, 2, 7).refused(MFILE, 0, OPEN, 0, 11);
+        s.due(4, 0, OPEN, 0, 1).refused(MFILE, 0, OPEN, 0, 1).refused(MFILE, 0, OPEN, 2, 7)
+            .refused(MFILE, 0, OPEN, 0, 11);
         s.due(0, 1, OPEN, 0, 1).due(0, 0, CLOSE, 2).due(2, 0, OPEN, 0, 1).refused(MFILE, 0, OPEN, 0, 1);
     }
 
@@ -102,7 +104,8 @@ public final class OpenEdgeTest implements Numbers {
 
     private static void openEightNames() {
         Due.says("NOSPC when a new name is needed and there are 6 files or 8 names.");
-        Scene s = withFiles(5).text(0, 40, "m").text(0, 42, "n").text(0, 44, "o").text(0, 46, "new").due(0, 0, LINK, 32, 40);
+        Scene s = withFiles(5).text(0, 40, "m").text(0, 42, "n").text(0, 44, "o").text(0, 46, "new")
+            .due(0, 0, LINK, 32, 40);
         s.due(0, 0, LINK, 32, 42).due(0, 0, OPEN, 46, 7).dueCounts(6, 8, 1, 0);
         s = withFiles(5).text(0, 40, "m").text(0, 42, "n").text(0, 44, "o").text(0, 46, "new").due(0, 0, LINK, 32, 40);
         s.due(0, 0, LINK, 32, 42).due(0, 0, LINK, 32, 44).dueCounts(5, 8, 0, 0).refused(NOSPC, 0, OPEN, 46, 7);
@@ -115,10 +118,13 @@ public final class OpenEdgeTest implements Numbers {
         for (int d = 0; d < 5; d++) {
             s.due(d, 0, OPEN, 32, 1);
         }
-        s.text(1, 32, "a").due(0, 1, OPEN, 32, 1).due(1, 1, OPEN, 32, 1).due(2, 1, OPEN, 32, 1).text(0, 48, "n").text(1, 48, "n");
-        s.refused(INVAL, 0, OPEN, 40, 8).refused(INVAL, 0, OPEN, -1, 16).refused(INVAL, 0, OPEN, 1, 0).refused(INVAL, 1, OPEN, 48, 13);
+        s.text(1, 32, "a").due(0, 1, OPEN, 32, 1).due(1, 1, OPEN, 32, 1).due(2, 1, OPEN, 32, 1).text(0, 48, "n")
+            .text(1, 48, "n");
+        s.refused(INVAL, 0, OPEN, 40, 8).refused(INVAL, 0, OPEN, -1, 16).refused(INVAL, 0, OPEN, 1, 0)
+            .refused(INVAL, 1, OPEN, 48, 13);
         s.refused(FAULT, 0, OPEN, 40, 7).refused(FAULT, 1, OPEN, 256, 3).refused(FAULT, 0, OPEN, 64, 15);
-        s.refused(NOENT, 0, OPEN, 48, 3).refused(NOENT, 0, OPEN, 63, 7).refused(NOENT, 1, OPEN, 48, 1).refused(NOENT, 1, OPEN, 63, 7);
+        s.refused(NOENT, 0, OPEN, 48, 3).refused(NOENT, 0, OPEN, 63, 7).refused(NOENT, 1, OPEN, 48, 1)
+            .refused(NOENT, 1, OPEN, 63, 7);
         s.refused(MFILE, 0, OPEN, 48, 7).refused(MFILE, 0, OPEN, 32, 3);
         s.refused(NFILE, 1, OPEN, 48, 7).refused(NFILE, 1, OPEN, 32, 3);
         s.due(0, 1, CLOSE, 0).refused(NOSPC, 1, OPEN, 48, 7).refused(MFILE, 0, OPEN, 48, 7).due(0, 1, OPEN, 32, 7);
@@ -126,24 +132,31 @@ public final class OpenEdgeTest implements Numbers {
 
     private static void openMakes() {
         Due.says("If there was no such name, a file of 0 bytes gets it");
-        Scene s = withFile().due(1, 0, OPEN, 2, 5).dueStat(0, 2, 0, 1, 1).dueStat(0, 0, 6, 1, 1).due(0, 0, READ, 1, 32, 9);
-        s.refused(BADF, 0, WRITE, 1, 16, 1).due(0, 0, CLOSE, 1).due(1, 0, OPEN, 2, 6).due(2, 0, WRITE, 1, 16, 2).dueStat(0, 2, 2, 1, 1);
+        Scene s = withFile().due(1, 0, OPEN, 2, 5).dueStat(0, 2, 0, 1, 1).dueStat(0, 0, 6, 1, 1)
+            .due(0, 0, READ, 1, 32, 9);
+        s.refused(BADF, 0, WRITE, 1, 16, 1).due(0, 0, CLOSE, 1).due(1, 0, OPEN, 2, 6).due(2, 0, WRITE, 1, 16, 2)
+            .dueStat(0, 2, 2, 1, 1);
     }
 
     private static void openEmpties() {
         Due.says("with EMPTY the file then has 0 bytes (positions of its other opens stay).");
-        Scene s = withFile().due(1, 0, OPEN, 0, 3).due(2, 0, READ, 1, 32, 2).due(2, 0, OPEN, 0, 10).dueStat(0, 0, 0, 1, 3);
-        s.due(0, 0, READ, 1, 32, 9).due(3, 0, WRITE, 1, 16, 3).dueStat(0, 0, 5, 1, 3).due(1, 0, WRITE, 0, 16, 1).dueStat(0, 0, 7, 1, 3);
+        Scene s = withFile().due(1, 0, OPEN, 0, 3).due(2, 0, READ, 1, 32, 2).due(2, 0, OPEN, 0, 10)
+            .dueStat(0, 0, 0, 1, 3);
+        s.due(0, 0, READ, 1, 32, 9).due(3, 0, WRITE, 1, 16, 3).dueStat(0, 0, 5, 1, 3).due(1, 0, WRITE, 0, 16, 1)
+            .dueStat(0, 0, 7, 1, 3);
         s.due(0, 0, SEEK, 0, 0).due(7, 0, READ, 0, 32, 9).dueBytes(0, 32, 0, 0, 'a', 'b', 'c', 0, 'a');
-        withFile().due(24, 0, SEEK, 0, 24).due(1, 0, OPEN, 0, 14).refused(NOSPC, 0, WRITE, 0, 16, 1).dueStat(0, 0, 0, 1, 2);
+        withFile().due(24, 0, SEEK, 0, 24).due(1, 0, OPEN, 0, 14).refused(NOSPC, 0, WRITE, 0, 16, 1)
+            .dueStat(0, 0, 0, 1, 2);
     }
 
     private static void openKeepsBytes() {
         Due.says("with EMPTY the file then has 0 bytes");
         for (int mode : new int[] {1, 2, 3, 5, 6, 7}) {
-            withFile().due(1, 0, OPEN, 0, mode).dueStat(0, 0, 6, 1, 2).due(0, 0, SEEK, 0, 0).due(6, 0, READ, 0, 32, 9).dueText(0, 32, "abcdef");
+            withFile().due(1, 0, OPEN, 0, mode).dueStat(0, 0, 6, 1, 2).due(0, 0, SEEK, 0, 0).due(6, 0, READ, 0, 32, 9)
+                .dueText(0, 32, "abcdef");
         }
-        withFile().text(0, 4, "n").due(0, 0, LINK, 0, 4).due(1, 0, OPEN, 4, 15).dueStat(0, 0, 0, 2, 2).due(2, 0, OPEN, 2, 15).dueStat(0, 2, 0, 1, 1);
+        withFile().text(0, 4, "n").due(0, 0, LINK, 0, 4).due(1, 0, OPEN, 4, 15).dueStat(0, 0, 0, 2, 2)
+            .due(2, 0, OPEN, 2, 15).dueStat(0, 2, 0, 1, 1);
     }
 
     private static void openTakesLeastClosed() {
@@ -152,7 +165,8 @@ public final class OpenEdgeTest implements Numbers {
         for (int d = 1; d < 5; d++) {
             s.due(d, 0, OPEN, 0, 1).dueDescriptors(0, d + 1);
         }
-        s.dueZero(CLOSE, 3, 1).due(1, 0, OPEN, 0, 1).due(3, 0, OPEN, 0, 1).dueZero(CLOSE, 4, 0).due(0, 0, OPEN, 0, 1).due(4, 0, OPEN, 0, 1);
+        s.dueZero(CLOSE, 3, 1).due(1, 0, OPEN, 0, 1).due(3, 0, OPEN, 0, 1).dueZero(CLOSE, 4, 0).due(0, 0, OPEN, 0, 1)
+            .due(4, 0, OPEN, 0, 1);
         s.due(0, 1, OPEN, 0, 1);
     }
 
@@ -176,13 +190,15 @@ public final class OpenEdgeTest implements Numbers {
     private static void close() {
         Due.says("BADF; it is closed, 0.");
         Scene s = withFile().due(1, 0, OPEN, 0, 1).due(2, 0, DUP, 1).due(3, 0, DUP, 1).due(4, 0, DUP, 0);
-        s.due(0, 0, CLOSE, 0).dueDescriptors(0, 4).dueCounts(1, 1, 2, 0).due(0, 0, CLOSE, 4).dueDescriptors(0, 3).dueCounts(1, 1, 1, 0);
+        s.due(0, 0, CLOSE, 0).dueDescriptors(0, 4).dueCounts(1, 1, 2, 0).due(0, 0, CLOSE, 4).dueDescriptors(0, 3)
+            .dueCounts(1, 1, 1, 0);
         s.refused(BADF, 0, CLOSE, 0).refused(BADF, 0, CLOSE, 4).due(6, 0, READ, 3, 32, 9);
     }
 
     private static void closeRefuses() {
         Due.says("\"Descriptor A0\" is BADF when A0 is not 0 .. 4 or that one is closed");
-        Scene s = withFile().due(0, 1, OPEN, 0, 1).due(1, 0, DUP, 0).due(2, 0, DUP, 0).due(3, 0, DUP, 0).due(4, 0, DUP, 0);
+        Scene s = withFile().due(0, 1, OPEN, 0, 1).due(1, 0, DUP, 0).due(2, 0, DUP, 0).due(3, 0, DUP, 0)
+            .due(4, 0, DUP, 0);
         for (int d : Numbers.outside(4)) {
             s.refused(BADF, 0, CLOSE, d).refused(BADF, 1, CLOSE, d);
         }
@@ -196,7 +212,8 @@ public final class OpenEdgeTest implements Numbers {
         s.due(1, 0, READ, 1, 32, 1).dueText(0, 32, "d").dueCounts(1, 1, 1, 0).due(0, 0, CLOSE, 0).due(0, 0, DUP, 1);
         s.due(2, 0, DUP, 0).due(1, 0, READ, 2, 32, 1).dueText(0, 32, "e").dueCounts(1, 1, 1, 0);
         s = scene().due(0, 0, OPEN, 0, 5).due(1, 0, DUP, 0).refused(BADF, 0, WRITE, 1, 16, 1);
-        s.due(0, 0, PIPE, 48).due(4, 0, DUP, 3).due(2, 0, WRITE, 4, 16, 2).due(0, 0, CLOSE, 3).due(2, 0, READ, 2, 32, 9);
+        s.due(0, 0, PIPE, 48).due(4, 0, DUP, 3).due(2, 0, WRITE, 4, 16, 2).due(0, 0, CLOSE, 3)
+            .due(2, 0, READ, 2, 32, 9);
     }
 
     private static void dupRefuses() {
@@ -205,7 +222,8 @@ public final class OpenEdgeTest implements Numbers {
         for (int d : Numbers.outside(4)) {
             s.refused(BADF, 0, DUP, d);
         }
-        s.refused(BADF, 0, DUP, 3).refused(BADF, 1, DUP, 0).due(3, 0, DUP, 2).refused(BADF, 0, DUP, 4).due(4, 0, DUP, 0);
+        s.refused(BADF, 0, DUP, 3).refused(BADF, 1, DUP, 0).due(3, 0, DUP, 2).refused(BADF, 0, DUP, 4)
+            .due(4, 0, DUP, 0);
         s.refused(MFILE, 0, DUP, 0).refused(MFILE, 0, DUP, 4).refused(BADF, 0, DUP, 5).refused(BADF, 0, DUP, -1);
         s.due(0, 1, OPEN, 0, 1).due(1, 1, DUP, 0).due(0, 0, CLOSE, 1).due(1, 0, DUP, 4);
     }
@@ -213,17 +231,21 @@ public final class OpenEdgeTest implements Numbers {
     private static void seek() {
         Due.says("the position becomes A1, which is the result.");
         Scene s = withFile().due(24, 0, SEEK, 0, 24).due(0, 0, READ, 0, 32, 1).refused(NOSPC, 0, WRITE, 0, 16, 1);
-        s.due(0, 0, SEEK, 0, 0).due(6, 0, READ, 0, 32, 9).due(5, 0, SEEK, 0, 5).due(1, 0, READ, 0, 32, 9).dueText(0, 32, "f");
-        s.due(6, 0, SEEK, 0, 6).due(0, 0, READ, 0, 32, 9).due(7, 0, SEEK, 0, 7).due(0, 0, READ, 0, 32, 9).dueStat(0, 0, 6, 1, 1);
+        s.due(0, 0, SEEK, 0, 0).due(6, 0, READ, 0, 32, 9).due(5, 0, SEEK, 0, 5).due(1, 0, READ, 0, 32, 9)
+            .dueText(0, 32, "f");
+        s.due(6, 0, SEEK, 0, 6).due(0, 0, READ, 0, 32, 9).due(7, 0, SEEK, 0, 7).due(0, 0, READ, 0, 32, 9)
+            .dueStat(0, 0, 6, 1, 1);
         s.due(23, 0, SEEK, 0, 23).due(1, 0, WRITE, 0, 16, 9).dueStat(0, 0, 24, 1, 1);
-        withFile().due(1, 0, OPEN, 0, 2).due(3, 0, SEEK, 1, 3).due(1, 0, WRITE, 1, 16, 1).due(3, 0, SEEK, 0, 3).due(1, 0, READ, 0, 32, 1).dueText(0, 32, "a");
+        withFile().due(1, 0, OPEN, 0, 2).due(3, 0, SEEK, 1, 3).due(1, 0, WRITE, 1, 16, 1).due(3, 0, SEEK, 0, 3)
+            .due(1, 0, READ, 0, 32, 1).dueText(0, 32, "a");
     }
 
     private static void seekRefuses() {
         Due.says("INVAL when A1 is not 0 .. 24");
         Scene s = withFile().due(3, 0, SEEK, 0, 3).due(1, 0, OPEN, 0, 1).due(2, 0, OPEN, 0, 2);
         for (int position : Numbers.outside(24)) {
-            s.refused(INVAL, 0, SEEK, 0, position).refused(INVAL, 0, SEEK, 1, position).refused(INVAL, 0, SEEK, 2, position);
+            s.refused(INVAL, 0, SEEK, 0, position).refused(INVAL, 0, SEEK, 1, position)
+                .refused(INVAL, 0, SEEK, 2, position);
         }
         for (int d : Numbers.outside(4)) {
             s.refused(BADF, 0, SEEK, d, 0);

@@ -22,7 +22,8 @@ public final class StringEdgeTest implements Numbers {
     private static void dueFault(Scene s, int address) {
         s.refused(FAULT, 0, OPEN, address, 7).refused(FAULT, 0, OPEN, address, 1).refused(FAULT, 0, UNLINK, address);
         s.refused(FAULT, 0, LINK, address, 2).refused(FAULT, 0, LINK, 0, address).refused(FAULT, 0, LINK, 2, address);
-        s.refused(FAULT, 0, RENAME, address, 2).refused(FAULT, 0, RENAME, 0, address).refused(FAULT, 0, RENAME, 2, address);
+        s.refused(FAULT, 0, RENAME, address, 2).refused(FAULT, 0, RENAME, 0, address)
+            .refused(FAULT, 0, RENAME, 2, address);
         s.refused(FAULT, 0, STAT, address, 16).refused(FAULT, 0, LINK, address, address);
         s.refused(FAULT, 0, RENAME, address, address);
     }
@@ -32,7 +33,8 @@ public final class StringEdgeTest implements Numbers {
         s.refused(NOENT, 0, UNLINK, address).refused(NOENT, 0, STAT, address, 16).refused(NOENT, 0, OPEN, address, 1);
         s.refused(NOENT, 0, LINK, address, 2).refused(NOENT, 0, RENAME, address, 2);
         s.due(1, 0, OPEN, address, 7).dueCounts(2, 2, 2, 0).due(0, 0, STAT, address, 16).due(0, 0, UNLINK, address);
-        s.due(0, 0, LINK, 0, address).refused(EXIST, 0, LINK, 0, address).due(0, 0, UNLINK, address).due(0, 0, CLOSE, 1);
+        s.due(0, 0, LINK, 0, address).refused(EXIST, 0, LINK, 0, address).due(0, 0, UNLINK, address)
+            .due(0, 0, CLOSE, 1);
         s.due(0, 0, RENAME, 0, address).dueCounts(1, 1, 1, 0).due(0, 0, RENAME, address, 0).dueCounts(1, 1, 1, 0);
     }
 
@@ -113,7 +115,8 @@ public final class StringEdgeTest implements Numbers {
     private static void allBytesCount() {
         Due.says("no two alike");
         Scene s = scene().text(0, 20, "abcdefg").text(0, 30, "abcdefh").text(0, 40, "abcdef").text(0, 50, "bbcdefg");
-        s.due(1, 0, OPEN, 20, 7).refused(NOENT, 0, UNLINK, 30).refused(NOENT, 0, UNLINK, 40).refused(NOENT, 0, UNLINK, 50);
+        s.due(1, 0, OPEN, 20, 7).refused(NOENT, 0, UNLINK, 30).refused(NOENT, 0, UNLINK, 40)
+            .refused(NOENT, 0, UNLINK, 50);
         s.due(0, 0, LINK, 20, 30).due(0, 0, LINK, 20, 40).due(0, 0, LINK, 20, 50).dueCounts(2, 5, 2, 0);
         s.bytes(0, 20, 255).bytes(0, 21, 0).due(0, 0, LINK, 0, 20).due(1, 0, LIST, 5, 8).dueBytes(0, 8, 255, 0);
     }

@@ -57,7 +57,8 @@ public final class TrapEdgeTest implements Numbers {
 
     private static void ticks() {
         Due.says("how many traps there were before (of all processes, this one not).");
-        Scene s = new Scene().due(0, 2, TICKS).due(1, 2, TICKS).due(2, 0, TICKS, LEAST, MOST, -1).due(0, 0, PID).due(4, 1, TICKS);
+        Scene s = new Scene().due(0, 2, TICKS).due(1, 2, TICKS).due(2, 0, TICKS, LEAST, MOST, -1).due(0, 0, PID)
+            .due(4, 1, TICKS);
         s.due(0, 1, COPY, 0, 0, 0).due(6, 1, TICKS).dueTraps(7);
         TrapGate x = new TrapGate();
         Due.is("trap(0, 99)", x.trap(0, 99), NOSYS);
@@ -70,15 +71,20 @@ public final class TrapEdgeTest implements Numbers {
     private static void eachErrorOfEachCall() {
         Due.says("Results below 0 are ERRORS, and then nothing but A0 and the count of traps changes.");
         Scene s = Scene.busy().text(0, 6, "new").text(0, 10, "abcdefgh").bytes(0, 48, 32, 2, 64, 1);
-        s.refused(INVAL, 0, OPEN, 0, 9).refused(FAULT, 0, OPEN, 10, 7).refused(NOENT, 0, OPEN, 6, 3).refused(NOENT, 0, OPEN, 1, 15);
+        s.refused(INVAL, 0, OPEN, 0, 9).refused(FAULT, 0, OPEN, 10, 7).refused(NOENT, 0, OPEN, 6, 3)
+            .refused(NOENT, 0, OPEN, 1, 15);
         s.refused(BADF, 0, CLOSE, 3).refused(INVAL, 0, READ, 0, 32, 65).refused(BADF, 1, READ, 1, 32, 1);
         s.refused(BADF, 1, READ, 2, 32, 1).refused(FAULT, 0, READ, 0, 63, 2).refused(FAULT, 1, READ, 0, 63, 2);
         s.refused(INVAL, 1, WRITE, 1, 32, 65).refused(BADF, 0, WRITE, 2, 32, 1).refused(BADF, 1, WRITE, 0, 32, 1);
         s.refused(FAULT, 1, WRITE, 1, 63, 2).refused(FAULT, 0, WRITE, 0, 63, 2);
-        s.refused(BADF, 0, SEEK, 4, 0).refused(SPIPE, 1, SEEK, 0, 0).refused(INVAL, 0, SEEK, 0, 25).refused(BADF, 0, DUP, 4);
-        s.refused(FAULT, 0, UNLINK, 10).refused(NOENT, 0, UNLINK, 6).refused(FAULT, 0, LINK, 0, 10).refused(NOENT, 0, LINK, 6, 0);
-        s.refused(EXIST, 0, LINK, 0, 2).refused(FAULT, 0, STAT, 10, 32).refused(FAULT, 0, STAT, 0, 62).refused(NOENT, 0, STAT, 6, 32);
-        s.refused(FAULT, 0, PIPE, 63).refused(NOENT, 0, LIST, 3, 32).refused(FAULT, 0, LIST, 0, 63).refused(FAULT, 0, LIST, 1, 62);
+        s.refused(BADF, 0, SEEK, 4, 0).refused(SPIPE, 1, SEEK, 0, 0).refused(INVAL, 0, SEEK, 0, 25)
+            .refused(BADF, 0, DUP, 4);
+        s.refused(FAULT, 0, UNLINK, 10).refused(NOENT, 0, UNLINK, 6).refused(FAULT, 0, LINK, 0, 10)
+            .refused(NOENT, 0, LINK, 6, 0);
+        s.refused(EXIST, 0, LINK, 0, 2).refused(FAULT, 0, STAT, 10, 32).refused(FAULT, 0, STAT, 0, 62)
+            .refused(NOENT, 0, STAT, 6, 32);
+        s.refused(FAULT, 0, PIPE, 63).refused(NOENT, 0, LIST, 3, 32).refused(FAULT, 0, LIST, 0, 63)
+            .refused(FAULT, 0, LIST, 1, 62);
         s.refused(INVAL, 0, COPY, 0, 16, 65).refused(FAULT, 0, COPY, 63, 0, 2).refused(FAULT, 0, COPY, 0, 63, 2);
         s.refused(INVAL, 0, PROTECT, 0, 4).refused(FAULT, 0, PROTECT, 4, 0);
         s.refused(INVAL, 0, READV, 0, 48, 5).refused(BADF, 1, READV, 1, 48, 1).refused(FAULT, 0, READV, 0, 48, 2);
@@ -91,7 +97,8 @@ public final class TrapEdgeTest implements Numbers {
         Scene s = Scene.busy();
         for (int d : Numbers.outside(4)) {
             for (int[] call : callsOfDescriptor(d)) {
-                s.refused(BADF, 0, call[0], call[1], call[2], call[3]).refused(BADF, 1, call[0], call[1], call[2], call[3]);
+                s.refused(BADF, 0, call[0], call[1], call[2], call[3])
+                    .refused(BADF, 1, call[0], call[1], call[2], call[3]);
             }
         }
         for (int d = 0; d < 5; d++) {
@@ -102,7 +109,8 @@ public final class TrapEdgeTest implements Numbers {
         for (int[] call : callsOfDescriptor(4)) {
             s.refused(BADF, 0, call[0], call[1], call[2], call[3]);
         }
-        s.due(3, 0, DUP, 0).due(4, 0, DUP, 0).due(1, 0, READ, 4, 32, 1).due(0, 0, CLOSE, 4).due(0, 0, CLOSE, 0).refused(BADF, 0, CLOSE, 0);
+        s.due(3, 0, DUP, 0).due(4, 0, DUP, 0).due(1, 0, READ, 4, 32, 1).due(0, 0, CLOSE, 4).due(0, 0, CLOSE, 0)
+            .refused(BADF, 0, CLOSE, 0);
     }
 
     private static List<int[]> callsOfDescriptor(int d) {

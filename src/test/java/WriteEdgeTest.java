@@ -14,6 +14,7 @@ public final class WriteEdgeTest implements Numbers {
         positionMoves();
         pipeWithoutReader();
         pipeIsFull();
+        otherPipeIsFull();
         pipeHasRoom();
         rangesSizes();
         rangesWrongOpens();
@@ -58,13 +59,15 @@ public final class WriteEdgeTest implements Numbers {
         Scene s = withFile(3).due(1, 0, OPEN, 0, 1).refused(BADF, 0, WRITE, 1, 16, 1).refused(BADF, 0, WRITE, 1, 16, 0);
         s.due(2, 0, OPEN, 0, 5).refused(BADF, 0, WRITE, 2, 16, 1).due(3, 0, OPEN, 0, 2).due(1, 0, WRITE, 3, 16, 1);
         s.refused(BADF, 0, WRITE, 4, 16, 1).refused(BADF, 0, WRITE, 5, 16, 1).refused(BADF, 0, WRITE, -1, 16, 1);
-        withPipe(3).refused(BADF, 0, WRITE, 0, 16, 1).refused(BADF, 0, WRITE, 0, 16, 0).refused(BADF, 0, WRITE, 2, 16, 1);
+        withPipe(3).refused(BADF, 0, WRITE, 0, 16, 1).refused(BADF, 0, WRITE, 0, 16, 0)
+            .refused(BADF, 0, WRITE, 2, 16, 1);
         withPipe(8).refused(BADF, 0, WRITE, 0, 16, 1).due(0, 0, CLOSE, 1).refused(BADF, 0, WRITE, 0, 16, 1);
     }
 
     private static void faultsOfAllBytes() {
         Due.says("FAULT when A2 bytes at A1 are not readable");
-        withFile(3).due(2, 0, WRITE, 0, 62, 2).refused(FAULT, 0, WRITE, 0, 62, 3).refused(FAULT, 0, WRITE, 0, 63, 2).refused(FAULT, 0, WRITE, 0, 64, 1);
+        withFile(3).due(2, 0, WRITE, 0, 62, 2).refused(FAULT, 0, WRITE, 0, 62, 3).refused(FAULT, 0, WRITE, 0, 63, 2)
+            .refused(FAULT, 0, WRITE, 0, 64, 1);
         withFile(23).refused(FAULT, 0, WRITE, 0, 63, 2).due(1, 0, WRITE, 0, 63, 1);
         withFile(3).map(0, 3, 3, 6).refused(FAULT, 0, WRITE, 0, 46, 3).due(2, 0, WRITE, 0, 46, 2);
         withFile(3).map(0, 3, 3, 5).due(3, 0, WRITE, 0, 46, 3);
@@ -73,14 +76,16 @@ public final class WriteEdgeTest implements Numbers {
 
     private static void fileErrorsInOrder() {
         Due.says("When several errors would do, the one that is named first below is the result.");
-        Scene s = withFile(24).due(1, 0, OPEN, 0, 1).refused(INVAL, 0, WRITE, 1, 64, 65).refused(INVAL, 0, WRITE, 9, 64, -1);
+        Scene s = withFile(24).due(1, 0, OPEN, 0, 1).refused(INVAL, 0, WRITE, 1, 64, 65)
+            .refused(INVAL, 0, WRITE, 9, 64, -1);
         s.refused(INVAL, 0, WRITE, 0, 0, 65).refused(BADF, 0, WRITE, 1, 64, 1).refused(BADF, 0, WRITE, 5, -1, 64);
         s.refused(FAULT, 0, WRITE, 0, 64, 1).refused(FAULT, 0, WRITE, 0, 63, 2).refused(NOSPC, 0, WRITE, 0, 63, 1);
     }
 
     private static void pipeErrorsInOrder() {
         Due.says("When several errors would do, the one that is named first below is the result.");
-        Scene s = withPipe(8).refused(INVAL, 0, WRITE, 0, 64, 65).refused(BADF, 0, WRITE, 0, 64, 1).refused(FAULT, 0, WRITE, 1, 64, 1);
+        Scene s = withPipe(8).refused(INVAL, 0, WRITE, 0, 64, 65).refused(BADF, 0, WRITE, 0, 64, 1)
+            .refused(FAULT, 0, WRITE, 1, 64, 1);
         s.refused(AGAIN, 0, WRITE, 1, 63, 1).due(0, 0, CLOSE, 0).refused(INVAL, 0, WRITE, 1, 64, 65);
         s.refused(FAULT, 0, WRITE, 1, 64, 1).refused(BROKEN_PIPE, 0, WRITE, 1, 63, 1);
     }
@@ -89,15 +94,18 @@ public final class WriteEdgeTest implements Numbers {
         Due.says("0 when A2 is 0.");
         withFile(24).due(0, 0, WRITE, 0, 16, 0).due(0, 0, WRITE, 0, -1, 0).dueStat(0, 0, 24, 1, 1);
         withFile(3).due(9, 0, SEEK, 0, 9).due(0, 0, WRITE, 0, 16, 0).dueStat(0, 0, 3, 1, 1);
-        withPipe(8).due(0, 0, WRITE, 1, 16, 0).due(0, 0, CLOSE, 0).due(0, 0, WRITE, 1, 16, 0).due(0, 0, WRITE, 1, 256, 0);
+        withPipe(8).due(0, 0, WRITE, 1, 16, 0).due(0, 0, CLOSE, 0).due(0, 0, WRITE, 1, 16, 0)
+            .due(0, 0, WRITE, 1, 256, 0);
         withPipe(0).due(0, 0, WRITE, 1, 16, 0).refused(AGAIN, 0, READ, 0, 32, 1);
     }
 
     private static void fullPosition() {
         Due.says("NOSPC when the position is 24");
         withFile(24).refused(NOSPC, 0, WRITE, 0, 16, 1).refused(NOSPC, 0, WRITE, 0, 0, 64);
-        withFile(3).due(24, 0, SEEK, 0, 24).refused(NOSPC, 0, WRITE, 0, 16, 1).due(23, 0, SEEK, 0, 23).due(1, 0, WRITE, 0, 16, 1).refused(NOSPC, 0, WRITE, 0, 16, 1);
-        withFile(24).due(23, 0, SEEK, 0, 23).due(1, 0, WRITE, 0, 16, 2).refused(NOSPC, 0, WRITE, 0, 16, 2).due(0, 0, SEEK, 0, 0).due(2, 0, WRITE, 0, 16, 2);
+        withFile(3).due(24, 0, SEEK, 0, 24).refused(NOSPC, 0, WRITE, 0, 16, 1).due(23, 0, SEEK, 0, 23)
+            .due(1, 0, WRITE, 0, 16, 1).refused(NOSPC, 0, WRITE, 0, 16, 1);
+        withFile(24).due(23, 0, SEEK, 0, 23).due(1, 0, WRITE, 0, 16, 2).refused(NOSPC, 0, WRITE, 0, 16, 2)
+            .due(0, 0, SEEK, 0, 0).due(2, 0, WRITE, 0, 16, 2);
     }
 
     private static void asManyAsFit() {
@@ -117,7 +125,8 @@ public final class WriteEdgeTest implements Numbers {
         dueFile(withFile(2).due(3, 0, SEEK, 0, 3).due(1, 0, WRITE, 0, 16, 1), "ab\0a");
         dueFile(withFile(2).due(2, 0, SEEK, 0, 2).due(1, 0, WRITE, 0, 16, 1), "aba");
         dueFile(withFile(0).due(23, 0, SEEK, 0, 23).due(1, 0, WRITE, 0, 16, 9), "\0\0\0\0\0\0\0\0\0\0\0\0\0\0\0\0\0\0\0\0\0\0\0a");
-        Scene s = withFile(24).due(1, 0, OPEN, 0, 10).due(0, 0, CLOSE, 1).due(2, 0, SEEK, 0, 2).due(2, 0, WRITE, 0, 16, 2);
+        Scene s = withFile(24).due(1, 0, OPEN, 0, 10).due(0, 0, CLOSE, 1).due(2, 0, SEEK, 0, 2)
+            .due(2, 0, WRITE, 0, 16, 2);
         dueFile(s.due(6, 0, SEEK, 0, 6).due(1, 0, WRITE, 0, 18, 1), "\0\0ab\0\0c");
         dueFile(withFile(24).due(1, 0, OPEN, 0, 10).due(3, 0, WRITE, 1, 19, 3).due(0, 0, CLOSE, 1).due(5, 0, SEEK, 0, 5).due(1, 0, WRITE, 0, 16, 1), "def\0\0a");
     }
@@ -141,16 +150,29 @@ public final class WriteEdgeTest implements Numbers {
     private static void pipeWithoutReader() {
         Due.says("PIPE when its reading end is gone");
         for (int n : new int[] {0, 1, 7, 8}) {
-            withPipe(n).due(0, 0, CLOSE, 0).refused(BROKEN_PIPE, 0, WRITE, 1, 16, 1).refused(BROKEN_PIPE, 0, WRITE, 1, 0, 64);
+            withPipe(n).due(0, 0, CLOSE, 0).refused(BROKEN_PIPE, 0, WRITE, 1, 16, 1)
+                .refused(BROKEN_PIPE, 0, WRITE, 1, 0, 64);
         }
-        withPipe(1).due(2, 0, DUP, 0).due(0, 0, CLOSE, 0).due(1, 0, WRITE, 1, 16, 1).due(0, 0, CLOSE, 2).refused(BROKEN_PIPE, 0, WRITE, 1, 16, 1);
-        withPipe(1).due(0, 0, PIPE, 50).due(0, 0, CLOSE, 0).refused(BROKEN_PIPE, 0, WRITE, 1, 16, 1).due(1, 0, WRITE, 3, 16, 1);
+        withPipe(1).due(2, 0, DUP, 0).due(0, 0, CLOSE, 0).due(1, 0, WRITE, 1, 16, 1).due(0, 0, CLOSE, 2)
+            .refused(BROKEN_PIPE, 0, WRITE, 1, 16, 1);
+        withPipe(1).due(0, 0, PIPE, 50).due(0, 0, CLOSE, 0).refused(BROKEN_PIPE, 0, WRITE, 1, 16, 1)
+            .due(1, 0, WRITE, 3, 16, 1);
     }
 
     private static void pipeIsFull() {
         Due.says("AGAIN when 8 bytes are in it");
-        withPipe(7).due(1, 0, WRITE, 1, 16, 1).refused(AGAIN, 0, WRITE, 1, 16, 1).due(1, 0, READ, 0, 32, 1).due(1, 0, WRITE, 1, 16, 1).refused(AGAIN, 0, WRITE, 1, 16, 1);
-        withPipe(8).refused(AGAIN, 0, WRITE, 1, 16, 1).refused(AGAIN, 0, WRITE, 1, 0, 64).due(8, 0, READ, 0, 32, 9).due(8, 0, WRITE, 1, 0, 64);
+        withPipe(7).due(1, 0, WRITE, 1, 16, 1).refused(AGAIN, 0, WRITE, 1, 16, 1).due(1, 0, READ, 0, 32, 1)
+            .due(1, 0, WRITE, 1, 16, 1).refused(AGAIN, 0, WRITE, 1, 16, 1);
+        withPipe(8).refused(AGAIN, 0, WRITE, 1, 16, 1).refused(AGAIN, 0, WRITE, 1, 0, 64).due(8, 0, READ, 0, 32, 9)
+            .due(8, 0, WRITE, 1, 0, 64);
+    }
+
+    private static void otherPipeIsFull() {
+        Due.says("PIPE when its reading end is gone; AGAIN when 8 bytes are in it");
+        Scene s = withPipe(8).due(0, 0, PIPE, 50).refused(AGAIN, 0, WRITE, 1, 16, 1).due(8, 0, WRITE, 3, 16, 9);
+        s.refused(AGAIN, 0, WRITE, 3, 16, 1).due(1, 0, READ, 0, 32, 1).due(1, 0, WRITE, 1, 16, 1);
+        s.refused(AGAIN, 0, WRITE, 3, 16, 1).due(0, 0, CLOSE, 2).refused(BROKEN_PIPE, 0, WRITE, 3, 16, 1);
+        s.refused(AGAIN, 0, WRITE, 1, 16, 1).due(2, 0, READ, 0, 32, 2).due(2, 0, WRITE, 1, 16, 9);
     }
 
     private static void pipeHasRoom() {
@@ -160,7 +182,8 @@ public final class WriteEdgeTest implements Numbers {
             s.dueText(0, 32, "abcdefgh".substring(0, n) + "efghijkl".substring(0, 8 - n) + "\0");
             withPipe(n).due(8 - n, 0, WRITE, 1, 20, 8 - n).refused(AGAIN, 0, WRITE, 1, 20, 1);
         }
-        withPipe(3).due(4, 0, WRITE, 1, 16, 4).due(1, 0, WRITE, 1, 16, 4).due(8, 0, READ, 0, 32, 9).dueText(0, 32, "abcabcda");
+        withPipe(3).due(4, 0, WRITE, 1, 16, 4).due(1, 0, WRITE, 1, 16, 4).due(8, 0, READ, 0, 32, 9)
+            .dueText(0, 32, "abcabcda");
     }
 
     private static void rangesSizes() {
@@ -173,18 +196,25 @@ public final class WriteEdgeTest implements Numbers {
 
     private static void rangesWrongOpens() {
         Due.says("BADF as with READ (WRITE)");
-        Scene s = withFile(3).bytes(0, 48, 16, 1).due(1, 0, OPEN, 0, 1).refused(BADF, 0, WRITEV, 1, 48, 1).refused(BADF, 0, WRITEV, 1, 48, 0);
-        s.refused(BADF, 0, WRITEV, 2, 48, 1).refused(BADF, 0, WRITEV, 5, 48, 1).refused(BADF, 0, WRITEV, -1, 48, 0).due(1, 0, WRITEV, 0, 48, 1);
-        withPipe(3).bytes(0, 40, 16, 1).refused(BADF, 0, WRITEV, 0, 40, 1).refused(BADF, 0, WRITEV, 0, 40, 0).due(1, 0, WRITEV, 1, 40, 1);
+        Scene s = withFile(3).bytes(0, 48, 16, 1).due(1, 0, OPEN, 0, 1).refused(BADF, 0, WRITEV, 1, 48, 1)
+            .refused(BADF, 0, WRITEV, 1, 48, 0);
+        s.refused(BADF, 0, WRITEV, 2, 48, 1).refused(BADF, 0, WRITEV, 5, 48, 1).refused(BADF, 0, WRITEV, -1, 48, 0)
+            .due(1, 0, WRITEV, 0, 48, 1);
+        withPipe(3).bytes(0, 40, 16, 1).refused(BADF, 0, WRITEV, 0, 40, 1).refused(BADF, 0, WRITEV, 0, 40, 0)
+            .due(1, 0, WRITEV, 1, 40, 1);
     }
 
     private static void pairsReadable() {
         Due.says("FAULT when 2 * A2 bytes at A1 are not readable");
         Scene s = withFile(3).map(0, 15, 15, 5).due(0, 0, WRITEV, 0, 248, 4).refused(FAULT, 0, WRITEV, 0, 249, 4);
-        s.due(0, 0, WRITEV, 0, 254, 1).refused(FAULT, 0, WRITEV, 0, 255, 1).refused(FAULT, 0, WRITEV, 0, 256, 1).refused(FAULT, 0, WRITEV, 0, -1, 1);
-        s.refused(FAULT, 0, WRITEV, 0, MOST, 1).refused(FAULT, 0, WRITEV, 0, MOST - 6, 4).refused(FAULT, 0, WRITEV, 0, LEAST, 4);
-        s.due(0, 0, WRITEV, 0, 56, 4).refused(FAULT, 0, WRITEV, 0, 57, 4).refused(FAULT, 0, WRITEV, 0, 58, 4).due(0, 0, WRITEV, 0, 58, 3);
-        withFile(3).map(0, 3, 3, 6).refused(FAULT, 0, WRITEV, 0, 46, 2).refused(FAULT, 0, WRITEV, 0, 47, 1).due(0, 0, WRITEV, 0, 46, 1);
+        s.due(0, 0, WRITEV, 0, 254, 1).refused(FAULT, 0, WRITEV, 0, 255, 1).refused(FAULT, 0, WRITEV, 0, 256, 1)
+            .refused(FAULT, 0, WRITEV, 0, -1, 1);
+        s.refused(FAULT, 0, WRITEV, 0, MOST, 1).refused(FAULT, 0, WRITEV, 0, MOST - 6, 4)
+            .refused(FAULT, 0, WRITEV, 0, LEAST, 4);
+        s.due(0, 0, WRITEV, 0, 56, 4).refused(FAULT, 0, WRITEV, 0, 57, 4).refused(FAULT, 0, WRITEV, 0, 58, 4)
+            .due(0, 0, WRITEV, 0, 58, 3);
+        withFile(3).map(0, 3, 3, 6).refused(FAULT, 0, WRITEV, 0, 46, 2).refused(FAULT, 0, WRITEV, 0, 47, 1)
+            .due(0, 0, WRITEV, 0, 46, 1);
         withFile(3).due(0, 0, WRITEV, 0, 64, 0).due(0, 0, WRITEV, 0, -1, 0).due(0, 0, WRITEV, 0, MOST, 0);
     }
 
@@ -192,9 +222,12 @@ public final class WriteEdgeTest implements Numbers {
         Due.says("FAULT when one of these ranges is not writable (readable).");
         Scene s = withFile(3).map(0, 15, 15, 5).bytes(0, 255, 'z').bytes(0, 48, 255, 1, 250, 6);
         dueFile(s.due(7, 0, WRITEV, 0, 48, 2), "abcz\0\0\0\0\0z");
-        s = withFile(3).map(0, 15, 15, 5).bytes(0, 48, 16, 1, 255, 2).refused(FAULT, 0, WRITEV, 0, 48, 2).due(1, 0, WRITEV, 0, 48, 1);
-        s.bytes(0, 48, 64, 1).refused(FAULT, 0, WRITEV, 0, 48, 1).bytes(0, 48, 63, 2).refused(FAULT, 0, WRITEV, 0, 48, 1).bytes(0, 48, 63, 1).due(1, 0, WRITEV, 0, 48, 1);
-        s = withFile(20).bytes(0, 48, 0, 65).refused(FAULT, 0, WRITEV, 0, 48, 1).bytes(0, 48, 0, 255).refused(FAULT, 0, WRITEV, 0, 48, 1);
+        s = withFile(3).map(0, 15, 15, 5).bytes(0, 48, 16, 1, 255, 2).refused(FAULT, 0, WRITEV, 0, 48, 2)
+            .due(1, 0, WRITEV, 0, 48, 1);
+        s.bytes(0, 48, 64, 1).refused(FAULT, 0, WRITEV, 0, 48, 1).bytes(0, 48, 63, 2)
+            .refused(FAULT, 0, WRITEV, 0, 48, 1).bytes(0, 48, 63, 1).due(1, 0, WRITEV, 0, 48, 1);
+        s = withFile(20).bytes(0, 48, 0, 65).refused(FAULT, 0, WRITEV, 0, 48, 1).bytes(0, 48, 0, 255)
+            .refused(FAULT, 0, WRITEV, 0, 48, 1);
         s.bytes(0, 48, 16, 6, 64, 1).refused(FAULT, 0, WRITEV, 0, 48, 2).due(4, 0, WRITEV, 0, 48, 1);
         for (int bad = 0; bad < 4; bad++) {
             s = withFile(3).map(0, 3, 3, 6).bytes(0, 20, 32, 1, 33, 1, 34, 1, 35, 1).bytes(0, 20 + 2 * bad, 48, 1);
@@ -204,18 +237,23 @@ public final class WriteEdgeTest implements Numbers {
 
     private static void rangesErrorsInOrder() {
         Due.says("When several errors would do, the one that is named first below is the result.");
-        Scene s = withFile(24).due(1, 0, OPEN, 0, 1).bytes(0, 48, 64, 1, 16, 1).refused(INVAL, 0, WRITEV, 1, 64, 5).refused(INVAL, 0, WRITEV, 9, 48, -1);
+        Scene s = withFile(24).due(1, 0, OPEN, 0, 1).bytes(0, 48, 64, 1, 16, 1).refused(INVAL, 0, WRITEV, 1, 64, 5)
+            .refused(INVAL, 0, WRITEV, 9, 48, -1);
         s.refused(BADF, 0, WRITEV, 1, 64, 1).refused(BADF, 0, WRITEV, 4, 48, 1).refused(BADF, 0, WRITEV, 5, 64, 0);
-        s.refused(FAULT, 0, WRITEV, 0, 64, 1).refused(FAULT, 0, WRITEV, 0, 48, 1).refused(FAULT, 0, WRITEV, 0, 48, 2).refused(NOSPC, 0, WRITEV, 0, 50, 1);
-        s = withPipe(8).bytes(0, 40, 64, 1, 16, 1).refused(FAULT, 0, WRITEV, 1, 40, 2).refused(AGAIN, 0, WRITEV, 1, 42, 1);
+        s.refused(FAULT, 0, WRITEV, 0, 64, 1).refused(FAULT, 0, WRITEV, 0, 48, 1).refused(FAULT, 0, WRITEV, 0, 48, 2)
+            .refused(NOSPC, 0, WRITEV, 0, 50, 1);
+        s = withPipe(8).bytes(0, 40, 64, 1, 16, 1).refused(FAULT, 0, WRITEV, 1, 40, 2)
+            .refused(AGAIN, 0, WRITEV, 1, 42, 1);
         s.due(0, 0, CLOSE, 0).refused(FAULT, 0, WRITEV, 1, 40, 2).refused(BROKEN_PIPE, 0, WRITEV, 1, 42, 1);
     }
 
     private static void rangesSumIsZero() {
         Due.says("from \"0 when it is 0\" on.");
-        withFile(24).bytes(0, 48, 255, 0, 16, 0).due(0, 0, WRITEV, 0, 48, 2).due(0, 0, WRITEV, 0, 48, 1).due(0, 0, WRITEV, 0, 48, 0).dueStat(0, 0, 24, 1, 1);
+        withFile(24).bytes(0, 48, 255, 0, 16, 0).due(0, 0, WRITEV, 0, 48, 2).due(0, 0, WRITEV, 0, 48, 1)
+            .due(0, 0, WRITEV, 0, 48, 0).dueStat(0, 0, 24, 1, 1);
         withFile(3).bytes(0, 48, 255, 0).due(9, 0, SEEK, 0, 9).due(0, 0, WRITEV, 0, 48, 1).dueStat(0, 0, 3, 1, 1);
-        Scene s = withPipe(8).bytes(0, 40, 255, 0, 64, 0, 0, 0, 16, 0).due(0, 0, WRITEV, 1, 40, 4).due(0, 0, CLOSE, 0).due(0, 0, WRITEV, 1, 40, 4);
+        Scene s = withPipe(8).bytes(0, 40, 255, 0, 64, 0, 0, 0, 16, 0).due(0, 0, WRITEV, 1, 40, 4).due(0, 0, CLOSE, 0)
+            .due(0, 0, WRITEV, 1, 40, 4);
         s.due(0, 0, WRITEV, 1, 40, 0).bytes(0, 46, 16, 1).refused(BROKEN_PIPE, 0, WRITEV, 1, 40, 4);
     }
 
@@ -242,9 +280,12 @@ public final class WriteEdgeTest implements Numbers {
 
     private static void rangesToPipe() {
         Due.says("Then as READ (WRITE)");
-        Scene s = withPipe(3).bytes(0, 40, 20, 2, 16, 2).due(4, 0, WRITEV, 1, 40, 2).due(1, 0, WRITEV, 1, 40, 2).refused(AGAIN, 0, WRITEV, 1, 40, 2);
+        Scene s = withPipe(3).bytes(0, 40, 20, 2, 16, 2).due(4, 0, WRITEV, 1, 40, 2).due(1, 0, WRITEV, 1, 40, 2)
+            .refused(AGAIN, 0, WRITEV, 1, 40, 2);
         s.due(8, 0, READ, 0, 32, 8).dueText(0, 32, "abcefabe");
-        withPipe(0).bytes(0, 40, 16, 5, 20, 3).due(8, 0, WRITEV, 1, 40, 2).due(8, 0, READ, 0, 48, 9).dueText(0, 48, "abcdeefg\0");
-        withPipe(0).bytes(0, 40, 16, 5, 20, 4).due(8, 0, WRITEV, 1, 40, 2).due(0, 0, CLOSE, 0).refused(BROKEN_PIPE, 0, WRITEV, 1, 40, 2);
+        withPipe(0).bytes(0, 40, 16, 5, 20, 3).due(8, 0, WRITEV, 1, 40, 2).due(8, 0, READ, 0, 48, 9)
+            .dueText(0, 48, "abcdeefg\0");
+        withPipe(0).bytes(0, 40, 16, 5, 20, 4).due(8, 0, WRITEV, 1, 40, 2).due(0, 0, CLOSE, 0)
+            .refused(BROKEN_PIPE, 0, WRITEV, 1, 40, 2);
     }
 }
