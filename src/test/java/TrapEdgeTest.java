@@ -10,6 +10,8 @@ public final class TrapEdgeTest implements Numbers {
         pid();
         ticks();
         eachErrorOfEachCall();
+        errorsOfTheFull();
+        errorsOfPipes();
         descriptorFirst();
         Due.end();
     }
@@ -90,6 +92,31 @@ public final class TrapEdgeTest implements Numbers {
         s.refused(INVAL, 0, READV, 0, 48, 5).refused(BADF, 1, READV, 1, 48, 1).refused(FAULT, 0, READV, 0, 48, 2);
         s.refused(INVAL, 0, WRITEV, 0, 48, 5).refused(BADF, 0, WRITEV, 2, 48, 1).refused(FAULT, 0, WRITEV, 0, 48, 2);
         s.refused(FAULT, 0, RENAME, 0, 10).refused(NOENT, 0, RENAME, 6, 0).refused(NOENT, 0, RENAME, 0, 1);
+    }
+
+    private static void errorsOfTheFull() {
+        Due.says("Results below 0 are ERRORS, and then nothing but A0 and the count of traps changes.");
+        Scene s = Scene.busy().due(3, 0, DUP, 0).refused(MFILE, 0, PIPE, 32).due(4, 0, DUP, 2);
+        s.refused(MFILE, 0, OPEN, 0, 11).refused(MFILE, 0, DUP, 0).refused(MFILE, 0, PIPE, 32);
+        s = Scene.busy().due(3, 0, OPEN, 0, 3).due(4, 0, OPEN, 2, 2).refused(NFILE, 1, PIPE, 32);
+        s.due(3, 1, OPEN, 0, 2).refused(NFILE, 1, OPEN, 0, 10).dueZero(CLOSE, 4, 1).refused(NFILE, 0, PIPE, 32);
+        s = Scene.busy().due(0, 0, PIPE, 48).refused(NFILE, 1, PIPE, 32);
+        s = Scene.busy();
+        for (int i = 0; i < 5; i++) {
+            s.bytes(0, 32, '0' + i, 0).due(0, 0, LINK, 0, 32);
+        }
+        s.text(0, 34, "new").refused(NOSPC, 0, LINK, 0, 34).refused(NOSPC, 0, OPEN, 34, 15);
+        s = Scene.busy().due(24, 0, SEEK, 0, 24).refused(NOSPC, 0, WRITE, 0, 16, 1);
+        s.bytes(0, 48, 16, 1).refused(NOSPC, 0, WRITEV, 0, 48, 1);
+    }
+
+    private static void errorsOfPipes() {
+        Due.says("Results below 0 are ERRORS, and then nothing but A0 and the count of traps changes.");
+        Scene s = Scene.busy().bytes(1, 50, 16, 9).due(5, 1, WRITE, 1, 16, 9).refused(AGAIN, 1, WRITE, 1, 16, 1);
+        s.refused(AGAIN, 1, WRITEV, 1, 50, 1).due(8, 1, READ, 0, 32, 9);
+        s.refused(AGAIN, 1, READ, 0, 40, 1).refused(AGAIN, 1, READV, 0, 50, 1);
+        s = Scene.busy().bytes(1, 50, 16, 9).due(0, 1, CLOSE, 0).refused(BROKEN_PIPE, 1, WRITE, 1, 16, 1);
+        s.refused(BROKEN_PIPE, 1, WRITEV, 1, 50, 1);
     }
 
     private static void descriptorFirst() {
