@@ -15,6 +15,7 @@ public final class ReadEdgeTest implements Numbers {
         rangesSizes();
         rangesWrongOpens();
         pairsReadable();
+        pairsOfBytes();
         rangesWritable();
         rangesErrorsInOrder();
         rangesSumIsZero();
@@ -188,6 +189,21 @@ public final class ReadEdgeTest implements Numbers {
         withFile().map(0, 3, 3, 6).refused(FAULT, 0, READV, 0, 46, 2).refused(FAULT, 0, READV, 0, 47, 1)
             .due(0, 0, READV, 0, 46, 1);
         withFile().due(0, 0, READV, 0, 64, 0).due(0, 0, READV, 0, -1, 0).due(0, 0, READV, 0, MOST, 0);
+    }
+
+    private static void pairsOfBytes() {
+        Due.says("they are pairs of an address and a length, both 0 .. 255 (A2 0: none);");
+        for (int length = 0; length <= 255; length++) {
+            int n = Math.min(length, 6);
+            Scene s = withFile().moreRoom().bytes(0, 40, 1, length).due(n, 0, READV, 0, 40, 1);
+            s.dueText(0, 1, "abcdef".substring(0, n)).dueByte(0, 1 + n, 0);
+        }
+        for (int address = 0; address <= 255; address++) {
+            int n = Math.min(256 - address, 6);
+            Scene s = withFile().moreRoom().bytes(0, 40, address, n).due(n, 0, READV, 0, 40, 1);
+            s.dueText(0, address, "abcdef".substring(0, n));
+        }
+        withFile().bytes(0, 40, 32, 1).due(0, 0, READV, 0, 40, 0).dueByte(2, 0, 0).due(6, 0, READ, 0, 32, 6);
     }
 
     private static void rangesWritable() {

@@ -19,6 +19,7 @@ public final class WriteEdgeTest implements Numbers {
         rangesSizes();
         rangesWrongOpens();
         pairsReadable();
+        pairsOfBytes();
         rangesReadable();
         rangesErrorsInOrder();
         rangesSumIsZero();
@@ -216,6 +217,22 @@ public final class WriteEdgeTest implements Numbers {
         withFile(3).map(0, 3, 3, 6).refused(FAULT, 0, WRITEV, 0, 46, 2).refused(FAULT, 0, WRITEV, 0, 47, 1)
             .due(0, 0, WRITEV, 0, 46, 1);
         withFile(3).due(0, 0, WRITEV, 0, 64, 0).due(0, 0, WRITEV, 0, -1, 0).due(0, 0, WRITEV, 0, MOST, 0);
+    }
+
+    private static void pairsOfBytes() {
+        Due.says("they are pairs of an address and a length, both 0 .. 255 (A2 0: none);");
+        String fromOne = "\0".repeat(15) + "abcdefghi";
+        for (int length = 0; length <= 255; length++) {
+            int n = Math.min(length, 24);
+            Scene s = withFile(0).moreRoom().bytes(0, 48, 1, length).due(n, 0, WRITEV, 0, 48, 1);
+            dueFile(s, fromOne.substring(0, n));
+        }
+        for (int address = 64; address <= 255; address++) {
+            String text = "uvwxyz".substring(0, Math.min(256 - address, 6));
+            Scene s = withFile(0).moreRoom().bytes(0, address, text.chars().toArray()).bytes(0, 48, address, text.length());
+            dueFile(s.due(text.length(), 0, WRITEV, 0, 48, 1), text);
+        }
+        dueFile(withFile(0).bytes(0, 48, 16, 1).due(0, 0, WRITEV, 0, 48, 0), "");
     }
 
     private static void rangesReadable() {

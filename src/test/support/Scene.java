@@ -56,6 +56,14 @@ final class Scene implements Numbers {
         return this;
     }
 
+    /** Pages 4 .. 15 of process 0, behind its room, get the frames of these numbers and all flags. */
+    Scene moreRoom() {
+        for (int page = 4; page < 16; page++) {
+            map(0, page, page, 7);
+        }
+        return this;
+    }
+
     Scene poke(int frame, int i, int b) {
         return step(g -> g.poke(frame, i, b));
     }
